@@ -306,7 +306,9 @@ final class Model {
         }
         int k = d.aspects;
         for (int i = 0; i <= m; i++) {
-            if (k == 2 ? i >= 1 && blind(p.get(i)) : i + k - 2 <= m && p.get(i + k - 2) - p.get(i) < braking(p.get(i))) {
+            boolean isBlind = k == 2 && i >= 1 && blind(p.get(i));
+            boolean isShort = k != 2 && i + k - 2 <= m && p.get(i + k - 2) - p.get(i) < braking(p.get(i));
+            if (isBlind || isShort) {
                 all.add(new int[] {p.get(i), 5});
             }
         }

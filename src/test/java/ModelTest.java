@@ -93,7 +93,8 @@ public final class ModelTest {
         model.forget();
         CHECK.due(where, got.equals(due), true);
         if (!got.equals(due)) {
-            CHECK.report(where + ": call " + call + " of (" + a + ", " + b + ", " + c + ") answered " + got + ", due is " + due);
+            String text = where + ": call " + call + " of (" + a + ", " + b + ", " + c + ")";
+            CHECK.report(text + " answered " + got + ", due is " + due);
         }
     }
 
