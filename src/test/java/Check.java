@@ -18,6 +18,13 @@ final class Check {
         due(what, got ? 1 : 0, due ? 1 : 0);
     }
 
+    void told(String what, Object got, Object due) {
+        checked++;
+        if (!got.equals(due)) {
+            report(what + " answered " + got + ", due is " + due);
+        }
+    }
+
     /** The call must throw just this class (a subclass would be the machine's own) and change nothing. */
     void refused(String what, SignalSpacing x, Class<?> type, Call call) {
         checked++;

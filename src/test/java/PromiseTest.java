@@ -1,16 +1,5 @@
 /** Promises 1 to 30: ordinary inputs, the edges that the document names, wrong inputs. */
-public final class PromiseTest {
-    private static final Check CHECK = new Check();
-    private static final Class<?> ARGUMENT = IllegalArgumentException.class;
-    private static final Class<?> INDEX = IndexOutOfBoundsException.class;
-    private static final Class<?> STATE = IllegalStateException.class;
-    private static final int LEAST = Integer.MIN_VALUE;
-    private static final int MOST = Integer.MAX_VALUE;
-
-    private interface Use {
-        void on(SignalSpacing x);
-    }
-
+public final class PromiseTest extends Bench {
     public static void main(String[] args) {
         newObject();
         setLength();
@@ -48,52 +37,6 @@ public final class PromiseTest {
     }
 
     // ---- helpers
-
-    private static SignalSpacing line(int cells) {
-        SignalSpacing x = new SignalSpacing();
-        x.setLength(cells);
-        return x;
-    }
-
-    private static SignalSpacing withPosts(int cells, int... positions) {
-        SignalSpacing x = line(cells);
-        add(x, positions);
-        return x;
-    }
-
-    private static void add(SignalSpacing x, int... positions) {
-        for (int position : positions) {
-            x.addPost(position);
-        }
-    }
-
-    private static void layout(String what, SignalSpacing x, int... due) {
-        CHECK.due(what + ": posts()", x.posts(), due.length);
-        for (int i = 0; i < due.length && i < x.posts(); i++) {
-            CHECK.due(what + ": post(" + i + ")", x.post(i), due[i]);
-        }
-    }
-
-    private static void violations(String what, SignalSpacing x, int... due) {
-        CHECK.due(what + ": violationCount()", x.violationCount(), due.length);
-        for (int i = 0; i < due.length && i < x.violationCount(); i++) {
-            CHECK.due(what + ": violation(" + i + ")", x.violation(i), due[i]);
-        }
-    }
-
-    private static void designs(String what, SignalSpacing x, int... due) {
-        int posts = x.posts();
-        CHECK.due(what + ": fewestPosts()", x.fewestPosts(), due.length);
-        CHECK.due(what + ": posts() after fewestPosts()", x.posts(), posts);
-        CHECK.due(what + ": design()", x.design(), due.length);
-        layout(what, x, due);
-        violations(what, x);
-    }
-
-    private static void cannotDesign(String what, SignalSpacing x) {
-        CHECK.due(what + ": fewestPosts()", x.fewestPosts(), SignalSpacing.NONE);
-        CHECK.refused(what + ": design()", x, STATE, () -> x.design());
-    }
 
     /** One state is saved, also if nothing changes, and undo brings back the one from before the call. */
     private static void undoable(String what, Use before, Use call) {
