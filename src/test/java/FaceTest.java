@@ -14,13 +14,34 @@ public final class FaceTest {
     private static final Check CHECK = new Check();
 
     private static final String[] FACE = {
-        "int setLength(int)", "int setLimit(int,int,int)", "int setGradient(int,int,int)",
-        "int setBarred(int,int,boolean)", "boolean setRequired(int,boolean)", "int setTrain(int,int,int)",
-        "int setRules(int,int,int)", "int setSight(int,int)", "int limit(int)", "int gradient(int)",
-        "boolean isBarred(int)", "long energy(int)", "int profileSpeed(int)", "int brakingDistance(int)",
-        "int travelTime(int,int)", "int addPost(int)", "int removePost(int)", "int clearPosts()", "int posts()",
-        "int post(int)", "int violationCount()", "int violation(int)", "int fewestPosts()", "int design()",
-        "int blockTime(int)", "int headway()", "int capacity()", "int undo()", "long digest()"};
+        "int setLength(int) throws IllegalArgumentException",
+        "int setLimit(int,int,int) throws IllegalArgumentException",
+        "int setGradient(int,int,int) throws IllegalArgumentException",
+        "int setBarred(int,int,boolean) throws IllegalArgumentException",
+        "boolean setRequired(int,boolean) throws IllegalArgumentException",
+        "int setTrain(int,int,int) throws IllegalArgumentException",
+        "int setRules(int,int,int) throws IllegalArgumentException",
+        "int setSight(int,int) throws IllegalArgumentException",
+        "int limit(int) throws IndexOutOfBoundsException",
+        "int gradient(int) throws IndexOutOfBoundsException",
+        "boolean isBarred(int) throws IndexOutOfBoundsException",
+        "long energy(int) throws IndexOutOfBoundsException",
+        "int profileSpeed(int) throws IndexOutOfBoundsException",
+        "int brakingDistance(int) throws IndexOutOfBoundsException",
+        "int travelTime(int,int) throws IllegalArgumentException",
+        "int addPost(int) throws IllegalArgumentException, IllegalStateException",
+        "int removePost(int) throws IllegalArgumentException, IllegalStateException",
+        "int clearPosts()", "int posts()",
+        "int post(int) throws IndexOutOfBoundsException",
+        "int violationCount()",
+        "int violation(int) throws IndexOutOfBoundsException",
+        "int fewestPosts()",
+        "int design() throws IllegalStateException",
+        "int blockTime(int) throws IndexOutOfBoundsException",
+        "int headway()",
+        "int capacity() throws IllegalStateException",
+        "int undo() throws IllegalStateException",
+        "long digest()"};
 
     private static final String[] FORBIDDEN = {
         "import ", "package ", "->", "::", "finally", "synchronized", "assert ", "try ", "catch ", "protected ",
@@ -62,7 +83,7 @@ public final class FaceTest {
                 publicNames.add(method.getName());
             }
         }
-        CHECK.due("the public methods " + found, found.equals(new TreeSet<>(Arrays.asList(FACE))), true);
+        CHECK.told("the public methods", found, new TreeSet<>(Arrays.asList(FACE)));
         for (Method method : SignalSpacing.class.getDeclaredMethods()) {
             if (!Modifier.isPublic(method.getModifiers())) {
                 CHECK.due(method + " is private", Modifier.isPrivate(method.getModifiers()), true);
@@ -82,7 +103,11 @@ public final class FaceTest {
         for (int i = 0; i < method.getParameterCount(); i++) {
             text.append(i == 0 ? "" : ",").append(method.getParameterTypes()[i]);
         }
-        return text.append(")").toString();
+        text.append(")");
+        for (int i = 0; i < method.getExceptionTypes().length; i++) {
+            text.append(i == 0 ? " throws " : ", ").append(method.getExceptionTypes()[i].getSimpleName());
+        }
+        return text.toString();
     }
 
     private static void fields() {
@@ -90,12 +115,18 @@ public final class FaceTest {
         for (Field field : SignalSpacing.class.getDeclaredFields()) {
             int modifiers = field.getModifiers();
             if (Modifier.isPublic(modifiers)) {
+                CHECK.due(field + " is an int constant", isConstant(field), true);
                 open++;
             } else {
                 CHECK.due(field + " is private", Modifier.isPrivate(modifiers), true);
             }
         }
         CHECK.due("number of public constants", open, 6);
+    }
+
+    private static boolean isConstant(Field field) {
+        int due = Modifier.PUBLIC | Modifier.STATIC | Modifier.FINAL;
+        return field.getModifiers() == due && field.getType() == int.class;
     }
 
     private static void nestedClasses() {
